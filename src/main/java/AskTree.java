@@ -101,7 +101,7 @@ public final class AskTree {
             return FULL;
         }
         rows.loadAll();
-        finder.findInto(placeFor(treeCount), depth);
+        finder.build(placeFor(treeCount), 0, rows.size, 0, depth);
         treeCount++;
         return treeCount - 1;
     }
@@ -132,9 +132,9 @@ public final class AskTree {
         if (k < 2 || k > MOST_FOLDS || !canGrow(depth, least)) {
             return NONE;
         }
-        Tree spare = placeFor(MOST_TREES);
         int wrong = 0;
         for (int fold = 0; fold < k; fold++) {
+            Tree spare = placeFor(MOST_TREES);
             rows.loadWithout(fold, k);
             grower.growInto(spare, depth, least);
             for (int i = fold; i < cases.size; i += k) {
@@ -285,13 +285,14 @@ public final class AskTree {
         return number >= 0 && number < treeCount ? trees[number] : null;
     }
 
-    /** A place's tree is made once and written anew, so that growing and removing takes no more room. */
+    /** A tree without nodes: a place's tree is made once and emptied, so that no call takes more room. */
     private Tree placeFor(int place) {
         Tree there = trees[place];
         if (there == null) {
             there = new Tree();
             trees[place] = there;
         }
+        there.size = 0;
         return there;
     }
 
@@ -647,7 +648,6 @@ public final class AskTree {
         void growInto(Tree tree, int toDepth, int leastCount) {
             depth = Math.min(toDepth, MOST_DEPTH);
             least = leastCount;
-            tree.size = 0;
             branch(tree, 0, rows.size, 0);
         }
 
@@ -752,40 +752,39 @@ public final class AskTree {
             this.rows = rows;
         }
 
-        void findInto(Tree tree, int toDepth) {
-            tree.size = 0;
-            branch(tree, 0, rows.size, 0, Math.min(toDepth, MOST_BEST_DEPTH));
-        }
-
-        private int branch(Tree tree, int lo, int hi, int above, int left) {
+        /** Puts the best tree of the cases from lo to hi, with at most left questions down, behind the nodes. */
+        int build(Tree tree, int lo, int hi, int above, int left) {
             rows.tally(lo, hi, all);
             int me = tree.open(above, all, 0);
-            if (me < 0 || left <= 0 || !seek(lo, hi, left)) {
+            if (me < 0 || above >= MOST_BEST_DEPTH || left <= 0) {
                 return me;
+            }
+            takeOne(lo, hi);
+            // what one question does without a fault no second one betters
+            boolean seeksOn = left > 1 && topWrong > 0;
+            for (int m = 0; m < MARKS && seeksOn; m++) {
+                seekTop(m, lo, hi);
             }
             int mark = topMark;
             int value = topValue;
+            if (mark == LEAF) {
+                return me;
+            }
             int middle = rows.part(lo, hi, mark, value, NO);
             tree.ask(me, mark, value, middle - lo >= hi - middle ? YES : NO);
-            branch(tree, lo, middle, above + 1, left - 1);
-            tree.below[me] = branch(tree, middle, hi, above + 1, left - 1);
+            build(tree, lo, middle, above + 1, left - 1);
+            tree.below[me] = build(tree, middle, hi, above + 1, left - 1);
             return me;
         }
 
-        private boolean seek(int lo, int hi, int left) {
+        /** The best of one question at most, for those of two to be held against. */
+        private void takeOne(int lo, int hi) {
             rows.setSides(0, lo, hi, NO);
             seekOne(lo, hi, NO);
             topMark = oneMark;
             topValue = oneValue;
             topWrong = oneWrong;
             topAsks = oneMark == LEAF ? 0 : 1;
-            // what one question does without a fault no second one betters
-            if (left > 1 && topWrong > 0) {
-                for (int m = 0; m < MARKS; m++) {
-                    seekTop(m, lo, hi);
-                }
-            }
-            return topMark != LEAF;
         }
 
         private void seekTop(int m, int lo, int hi) {
@@ -881,8 +880,10 @@ public final class AskTree {
         private void judgeOne(int m, int v) {
             int mostYes = 0, mostNo = 0;
             for (int c = 0; c < CLASSES; c++) {
-                mostYes = Math.max(mostYes, yes[c]);
-                mostNo = Math.max(mostNo, all[c] - yes[c]);
+                int onYes = yes[c];
+                int onNo = all[c] - onYes;
+                mostYes = onYes > mostYes ? onYes : mostYes;
+                mostNo = onNo > mostNo ? onNo : mostNo;
             }
             int wrong = oneTotal - mostYes - mostNo;
             if (wrong < oneWrong) {
@@ -909,7 +910,6 @@ public final class AskTree {
                     costs[k] = Math.min(costs[k], costs[k + 1] + costs[from.below[k]]);
                 }
             }
-            into.size = 0;
             copy(into, from, 0, 0);
         }
 
