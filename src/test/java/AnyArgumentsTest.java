@@ -20,6 +20,16 @@ public final class AnyArgumentsTest {
         return which == 8 ? r.nextInt(2001) - 1000 << 16 | r.nextInt(1001) : r.nextInt();
     }
 
+    /** A new object, one with as many cases as best() takes, or a full one. */
+    private static AskTree start(int seed, Random r) {
+        AskTree x = new AskTree();
+        int cases = seed % 3 == 0 ? 0 : seed % 3 == 1 ? 50 : 300;
+        for (int m = 0; m < 8; m++) x.sort(m, r.nextInt(2));
+        for (int i = 0; i < cases; i++) x.add(r.nextInt(4), r.nextInt(9), r.nextInt(9) << 16, cases == 300 ? 32768 : i, r.nextInt(3));
+        for (int t = 0; t < cases / 15; t++) x.grow(r.nextInt(9), 1 + r.nextInt(9));
+        return x;
+    }
+
     public static void main(String[] args) throws IllegalAccessException {
         List<Method> face = new ArrayList<>();
         for (Method m : AskTree.class.getMethods()) if (m.getDeclaringClass() == AskTree.class) face.add(m);
@@ -27,7 +37,7 @@ public final class AnyArgumentsTest {
         int calls = 0;
         for (int seed = 0; seed < 150; seed++) {
             Random r = new Random(seed);
-            AskTree x = new AskTree();
+            AskTree x = start(seed, r);
             for (int i = 0; i < 2000; i++, calls++) {
                 Method m = face.get(r.nextInt(face.size()));
                 Object[] told = new Object[m.getParameterCount()];

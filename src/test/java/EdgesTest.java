@@ -518,6 +518,13 @@ public final class EdgesTest extends Sentences {
         due("leaves at that price", y.tree(1, 1), 1);
         y.cut(0, 6666, 10000);
         due("leaves just below it", y.tree(2, 1), 4);
+        AskTree z = TermsTest.fullest();
+        z.grow(8, 1);
+        int upper = z.price(0, 0), lower = z.price(0, 1);
+        z.cut(0, upper, lower);
+        due("a full tree at its price has fewer leaves", z.tree(1, 1) < 256 ? 1 : 0, 1);
+        z.cut(0, upper * 1000 - 1, lower * 1000);
+        due("leaves just below it", z.tree(2, 1), 256);
     }
 
     static void p10InLowestTerms() {

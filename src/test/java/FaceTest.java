@@ -78,7 +78,7 @@ public final class FaceTest {
             check(fields <= 20, c.getName() + " has at most twenty fields");
             for (Method m : c.getDeclaredMethods()) {
                 check(m.getParameterCount() <= 7, m.getName() + " takes at most seven");
-                check(!Arrays.asList(FACE).contains(m.getName() + "(" + m.getParameterCount() + ")"), m.getName() + " is no public name");
+                for (String f : FACE) check(!f.startsWith(m.getName() + "("), m.getName() + " is no public name");
             }
         }
     }
