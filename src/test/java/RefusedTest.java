@@ -236,6 +236,7 @@ public final class RefusedTest extends Sentences {
 
     private static List<Call> questions(AskTree like) {
         List<Call> all = new ArrayList<>();
+        int cases = like.count(0), trees = like.count(1);
         for (int w = 0; w < 2; w++) {
             int what = w;
             ask(all, "count(" + w + ")", x -> x.count(what));
@@ -246,7 +247,7 @@ public final class RefusedTest extends Sentences {
             int mark = m;
             ask(all, "turned(" + m + ")", x -> x.turned(mark));
         }
-        for (int c = 0; c < like.count(0); c++) {
+        for (int c = 0; c < cases; c++) {
             int i = c;
             ask(all, "cls(" + i + ")", x -> x.cls(i));
             for (int m = 0; m < 8; m++) {
@@ -254,7 +255,7 @@ public final class RefusedTest extends Sentences {
                 ask(all, "mark(" + i + ", " + m + ")", x -> x.mark(i, mark));
             }
         }
-        for (int t = 0; t < like.count(1); t++) treeQuestions(all, t, like.tree(t, 0));
+        for (int t = 0; t < trees; t++) treeQuestions(all, t, like.tree(t, 0));
         // from here on the answers to come may change: these stand last
         ask(all, "folds(3, 4, 1)", x -> x.folds(3, 4, 1));
         for (int m = 0; m < 8; m++) {
