@@ -464,8 +464,9 @@ public final class AskTree {
             return k >= 0 && k < size;
         }
 
+        /** Whether no question leads on: the mark and both nodes below are looked at here, before any walk uses them. */
         boolean isLeaf(int k) {
-            return asked[k] == LEAF;
+            return !has(k) || !isMark(asked[k]) || !has(k + 1) || !has(below[k]);
         }
 
         /** A new leaf behind all nodes, with the four shares from a place on: its number, -1 if none fits. */

@@ -3,8 +3,9 @@ import java.lang.reflect.Field;
 import java.lang.reflect.Method;
 
 /**
- * Leaves whose rules no number can follow. No calls lead to such a tree, as each question has cases without a GAP on both
- * sides: so that the sentences on them are tested all the same, a tree is put inside the object by hand.
+ * Leaves whose rules no number can follow, and nodes that are not there. No calls lead to such trees, as each question
+ * has cases without a GAP on both sides: so that the sentences on them are tested all the same, a tree is put inside the
+ * object by hand.
  */
 public final class ClashTest extends Sentences {
     public static void main(String[] args) throws IllegalAccessException {
@@ -108,5 +109,38 @@ public final class ClashTest extends Sentences {
         due("turned(0)", sort.turned(0), 0);
         AskTree two = with(sorts(), new int[] {0, 3, 4}, new int[] {0, 4, 3}, new int[] {1}, new int[] {0}, new int[] {0});
         due("near, with no leaf left", near(two, 0, 3), 0);
+    }
+
+    /** Every call that walks through tree 0: what matters is that it ends and does not throw. */
+    private static void walk(AskTree x) {
+        int trees = x.count(1);
+        for (int what = 0; what < 6; what++) x.tree(0, what);
+        for (int node = 0; node < 4; node++) {
+            for (int what = 0; what < 9; what++) x.node(0, node, what);
+            for (int mark = 0; mark < 8; mark++) x.rule(0, node, mark, 0);
+        }
+        for (int mark = -1; mark < 2; mark++) {
+            say(x, 0, mark);
+            vote(x, mark);
+            near(x, 0, mark);
+        }
+        say(x, 0, GAP);
+        x.price(0, 0);
+        x.price(0, 1);
+        due("cut(0, 1, 1)", x.cut(0, 1, 1), trees);
+        due("cut(0, 0, 1)", x.cut(0, 0, 1), trees + 1);
+        due("count(1)", x.count(1), trees + 2);
+    }
+
+    static void anIndexIsLookedAt() throws ReflectiveOperationException {
+        says("an index is looked at before it is used");
+        for (int below : new int[] {-1, LOW, 3, 511, HIGH}) {
+            walk(with(of(new int[] {1, 0}), new int[] {0, 0, below}, new int[] {0}, new int[] {1}));
+        }
+        for (int mark : new int[] {-2, LOW, 8, HIGH}) {
+            walk(with(of(new int[] {1, 0}), new int[] {mark, 0, 2}, new int[] {0}, new int[] {1}));
+        }
+        // a question as the only node
+        walk(with(of(new int[] {1, 0}), new int[] {0, 0, 1}));
     }
 }
