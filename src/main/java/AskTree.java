@@ -101,7 +101,7 @@ public final class AskTree {
             return FULL;
         }
         rows.loadAll();
-        finder.build(placeFor(treeCount), 0, rows.size, 0, depth);
+        finder.findInto(placeFor(treeCount), depth);
         treeCount++;
         return treeCount - 1;
     }
@@ -753,8 +753,12 @@ public final class AskTree {
             this.rows = rows;
         }
 
+        void findInto(Tree tree, int depth) {
+            build(tree, 0, rows.size, 0, depth);
+        }
+
         /** Puts the best tree of the cases from lo to hi, with at most left questions down, behind the nodes. */
-        int build(Tree tree, int lo, int hi, int above, int left) {
+        private int build(Tree tree, int lo, int hi, int above, int left) {
             rows.tally(lo, hi, all);
             int me = tree.open(above, all, 0);
             if (me < 0 || above >= MOST_BEST_DEPTH || left <= 0) {

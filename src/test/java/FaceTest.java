@@ -109,8 +109,25 @@ public final class FaceTest {
         }
     }
 
+    /** Rule 8: what calls itself is private. */
+    private static void checkRecursion() throws IOException {
+        String source = Files.readString(Path.of("src/main/java/AskTree.java"));
+        Pattern method = Pattern.compile("(?ms)^( {4}| {8})((?:\\w[\\w\\[\\]]* )+)(\\w+)\\([^)]*\\) \\{\n(.*?)^\\1\\}");
+        Matcher found = method.matcher(source);
+        int methods = 0, callThemselves = 0;
+        for (int from = 0; found.find(from); from = found.start(4)) {
+            methods++;
+            String name = found.group(3);
+            boolean callsItself = Pattern.compile("(?<![.\\w])" + name + "\\(").matcher(found.group(4)).find();
+            if (callsItself) callThemselves++;
+            check(!callsItself || found.group(2).contains("private "), name + " calls itself and is private");
+        }
+        check(methods > 60 && callThemselves == 3, "all methods are looked at: " + methods + ", " + callThemselves);
+    }
+
     public static void main(String[] args) throws IOException {
         checkFace();
+        checkRecursion();
         checkFields();
         checkNested();
         checkSource();
